@@ -86,7 +86,11 @@ public final class ReadTest {
         reads("from 1 class 0019 when holds 1 end", 1);
         reads("from 1 class 20 when holds 1 end", -4);
         reads("from 1 class when holds 1 end", -4);
+        reads("from 1 class from 2", -4);
+        reads("from 1 class class 1 when holds 1 end", -4);
         reads("from 1 class 1 holds 1 end", -5);
+        reads("from 1 class 1 from 2", -5);
+        reads("from 1 class 1 class 1 when holds 1 end", -5);
         reads("from 1 class 1 when end", -6);
         reads("from 1 class 1 when holds 1 end end", -9);
         reads("from 1 class 1 when holds 1 end and holds 1 end", -9);
