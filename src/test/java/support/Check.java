@@ -1,3 +1,5 @@
+import java.util.List;
+
 /** What every test uses: compares an answer with the one that is due, and ends the test. */
 final class Check {
     private static int checked = 0;
@@ -16,6 +18,17 @@ final class Check {
 
     static void due(String call, boolean got, boolean want) {
         due(call, got ? 1 : 0, want ? 1 : 0);
+    }
+
+    /** Two objects of which the same is due: tells the first answer in which they differ. */
+    static void same(String after, List<String> got, List<String> want) {
+        int at = 0;
+        while (at < got.size() && at < want.size() && got.get(at).equals(want.get(at))) {
+            at++;
+        }
+        boolean alike = got.size() == want.size() && at == got.size();
+        String differs = alike ? "" : ": " + got.get(at) + ", due is " + want.get(at);
+        due("as before " + after + differs, alike, true);
     }
 
     /** Feeds a text's bytes; every one of them must be taken. */
